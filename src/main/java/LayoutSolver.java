@@ -12,6 +12,7 @@ public final class LayoutSolver {
     private static final int MOST_CONSTRAINTS = 14;
     private static final int MOST_CHANGES = 20;
     private static final int MOST_CHARACTERS = 40;
+    private static final int FIRST_CHARACTER = 33, LAST_CHARACTER = 126;
     private static final int SLOTS = 2;
     private static final int FARTHEST = 1000;
     private static final int MOST_CONSTANT = 200;
@@ -24,7 +25,6 @@ public final class LayoutSolver {
     private static final int NUMBER_SHIFT = 10000;
 
     private final int[] draft = new int[VARIABLES];
-    private final int[] unit = new int[VARIABLES];
     private final Line text = new Line();
     private final Line spelling = new Line();
     private final Reader reader = new Reader();
@@ -34,8 +34,15 @@ public final class LayoutSolver {
     private final Dictionary dictionary = new Dictionary();
     private final Costs present = new Costs();
     private final Costs other = new Costs();
+    /** For each variable the constraint that it equals a number, which is told when it is placed. */
+    private final Constraint[] pins = new Constraint[VARIABLES];
 
     public LayoutSolver() {
+        for (int i = 0; i < VARIABLES; i++) {
+            int[] coefficients = new int[VARIABLES];
+            coefficients[i] = 1;
+            pins[i] = new Constraint(coefficients, EQUAL, 0, REQUIRED, 1);
+        }
     }
 
     // ---- constraints
@@ -134,7 +141,7 @@ public final class LayoutSolver {
     // ---- texts
 
     public int say(int character) {
-        if (character < 33 || character > 126) {
+        if (character < FIRST_CHARACTER || character > LAST_CHARACTER) {
             return BAD_VALUE;
         }
         if (text.isFull()) {
@@ -509,24 +516,23 @@ public final class LayoutSolver {
     }
 
     private void findCosts(Costs costs) {
-        dictionary.settle(Dictionary.ALL_LEVELS);
+        dictionary.settle();
         dictionary.tellCosts(costs);
     }
 
     private void findCostsAt(int variable, int number, Costs costs) {
-        for (int i = 0; i < VARIABLES; i++) {
-            unit[i] = i == variable ? 1 : 0;
+        if (isVariable(variable)) {
+            dictionary.placeWith(Dictionary.TRIAL, pins[variable], number);
+            findCosts(costs);
+            dictionary.lift(Dictionary.TRIAL);
         }
-        dictionary.place(Dictionary.TRIAL, new Constraint(unit, EQUAL, number, REQUIRED, 1));
-        findCosts(costs);
-        dictionary.lift(Dictionary.TRIAL);
     }
 
     private boolean keepsCosts(int number, Constraint asked, int constant) {
         if (!isWithin(constant, MOST_CONSTANT)) {
             return false;
         }
-        dictionary.place(number, asked.withConstant(constant));
+        dictionary.placeWith(number, asked, constant);
         findCosts(other);
         return other.isFeasible() && other.compareWith(present) == 0;
     }
@@ -953,24 +959,11 @@ public final class LayoutSolver {
         }
 
         private boolean takesStrength(char character) {
-            switch (character) {
-                case 'r':
-                    strength = REQUIRED;
-                    state = END;
-                    return true;
-                case 's':
-                    strength = STRONG;
-                    break;
-                case 'm':
-                    strength = MEDIUM;
-                    break;
-                case 'w':
-                    strength = WEAK;
-                    break;
-                default:
-                    return false;
+            if (character != 'r' && character != 's' && character != 'm' && character != 'w') {
+                return false;
             }
-            state = WEIGHT;
+            strength = character == 'r' ? REQUIRED : character == 's' ? STRONG : character == 'm' ? MEDIUM : WEAK;
+            state = strength == REQUIRED ? END : WEIGHT;
             return true;
         }
 
@@ -1097,6 +1090,15 @@ public final class LayoutSolver {
 
         /** Gives a row to a constraint, instead of what had it; null leaves it empty. */
         void place(int row, Constraint constraint) {
+            if (constraint == null) {
+                lift(row);
+            } else {
+                placeWith(row, constraint, constraint.constant);
+            }
+        }
+
+        /** The same with another constant; it makes no object, for what-ifs go through many. */
+        void placeWith(int row, Constraint constraint, int constant) {
             lift(row);
             if (row < 0 || row > TRIAL || constraint == null) {
                 return;
@@ -1105,12 +1107,12 @@ public final class LayoutSolver {
             for (int k = 0; k <= COLUMNS; k++) {
                 entries[k] = 0;
             }
-            entries[SHIFT] = -scale * constraint.constant;
+            entries[SHIFT] = -scale * constant;
             for (int variable = 0; variable < VARIABLES; variable++) {
                 addVariable(entries, constraint.coefficient(variable), variable);
             }
             placed[row] = true;
-            constants[row] = constraint.constant;
+            constants[row] = constant;
             levels[row] = constraint.strength;
             costAbove[row] = constraint.costAbove();
             costBelow[row] = constraint.costBelow();
@@ -1143,7 +1145,7 @@ public final class LayoutSolver {
 
         /** Whether there is a point without violations of what is REQUIRED. */
         boolean isFeasible() {
-            settle(REQUIRED_ALONE);
+            descend(NO_AIM, 1, REQUIRED_ALONE);
             long violations = 0;
             for (int row = 0; row < ROWS; row++) {
                 if (placed[row] && levels[row] == REQUIRED) {
@@ -1179,17 +1181,17 @@ public final class LayoutSolver {
             return row < 0 || row >= ROWS ? 0 : rows[row][SHIFT] + constants[row] * scale;
         }
 
-        /** The sign of the excess of a row at the present point. */
+        /** Negative, 0 or positive, as the excess of a row at the present point. */
         int signOf(int row) {
-            return row < 0 || row >= ROWS ? 0 : Long.signum(rows[row][SHIFT]);
+            return row < 0 || row >= ROWS ? 0 : Long.compare(rows[row][SHIFT], 0);
         }
 
-        /** Goes to a point with the least costs of so many levels. */
-        void settle(int levelsThatCount) {
-            descend(NO_AIM, 1, levelsThatCount);
+        /** Goes to an optimal point, or, if none is feasible, to one with the least violation of what is REQUIRED. */
+        void settle() {
+            descend(NO_AIM, 1, ALL_LEVELS);
         }
 
-        /** Goes to one of these points at which the value of a row is least or greatest. */
+        /** Goes to a point at which the value of a row is least or greatest, of those with the least costs. */
         void goTo(int row, boolean isLeast, int levelsThatCount) {
             descend(row < 0 || row >= ROWS ? NO_AIM : row, isLeast ? 1 : -1, levelsThatCount);
         }
@@ -1252,24 +1254,24 @@ public final class LayoutSolver {
 
         /** 1 if it leads to less when the excess of a column grows, -1 if when it shrinks, 0 if neither. */
         private int directionOf(int column) {
-            return leadsToLess(column, 1) ? 1 : leadsToLess(column, -1) ? -1 : 0;
-        }
-
-        private boolean leadsToLess(int column, int direction) {
             if (column < 0 || column >= COLUMNS) {
-                return false;
+                return 0;
             }
             int row = rowOf[column];
+            boolean hasCosts = row >= 0 && row < ROWS && levels[row] < countedLevels;
+            int growing = 0;
+            int shrinking = 0;
             for (int level = 0; level <= AIM; level++) {
-                long slope = direction * slopes[level][column];
-                if (row >= 0 && row < ROWS && levels[row] == level && level < countedLevels) {
-                    slope += scale * (direction > 0 ? costAbove[row] : costBelow[row]);
+                boolean isOwn = hasCosts && levels[row] == level;
+                long slope = slopes[level][column];
+                if (growing == 0) {
+                    growing = Long.compare(isOwn ? slope + scale * costAbove[row] : slope, 0);
                 }
-                if (slope != 0) {
-                    return slope < 0;
+                if (shrinking == 0) {
+                    shrinking = Long.compare(isOwn ? scale * costBelow[row] - slope : -slope, 0);
                 }
             }
-            return false;
+            return growing < 0 ? 1 : shrinking < 0 ? -1 : 0;
         }
 
         /** The row whose excess becomes 0 first; the limits of the variables see to it that there is one. */
@@ -1328,7 +1330,7 @@ public final class LayoutSolver {
                 return;
             }
             long pivot = leavingEntries[column];
-            long newScale = Math.abs(pivot);
+            long newScale = pivot < 0 ? -pivot : pivot;
             long factor = pivot < 0 ? -entries[column] : entries[column];
             if (scale == 0 || factor == 0 && newScale == scale) {
                 return;
