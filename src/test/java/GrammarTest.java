@@ -22,6 +22,7 @@ public final class GrammarTest {
         atMostForty();
         sums();
         weights();
+        spelledTerms();
         Check.end("GrammarTest");
     }
 
@@ -55,8 +56,7 @@ public final class GrammarTest {
             for (int length = texts[i].length(); length <= 40; length++) {
                 Check.due("fault of " + texts[i], x.fault(), faults[i]);
                 Check.due("parse of " + texts[i], x.parse(), Check.NOT_POSSIBLE);
-                Check.due("say", x.say("a<5@+-2"
-                        .charAt(length % 7)), length == 40 ? Check.TOO_MANY : length + 1);
+                Check.due("say", x.say("a<5@+-2".charAt(length % 7)), length == 40 ? Check.TOO_MANY : length + 1);
             }
         }
     }
@@ -72,6 +72,7 @@ public final class GrammarTest {
                 Check.due("fault of " + text, x.fault(), want);
                 Check.due("parse of " + text, x.parse(), n <= 200 ? 0 : Check.NOT_POSSIBLE);
                 Check.due("constant of " + text, x.about(0, 7), n > 200 ? Check.NO_SUCH : 1000 + (sign == 0 ? n : -n));
+                if (n <= 200) Check.dueText(x, 0, n == 0 ? "a=0" : text);
             }
             LayoutSolver zero = new LayoutSolver();
             Check.say(zero, "a=0" + n);
@@ -151,5 +152,35 @@ public final class GrammarTest {
         LayoutSolver none = Check.layout("a=1");
         Check.due("strength", none.about(0, 8), 0);
         Check.due("weight", none.about(0, 9), 1);
+    }
+
+    /** The shortest and the longest standard text, and each coefficient at each place. */
+    private static void spelledTerms() {
+        String[] factors = {"-3", "-2", "-", "", "", "2", "3"};
+        for (int v = 0; v < 6; v++) {
+            for (int k = -3; k <= 3; k++) {
+                if (k == 0) continue;
+                String own = factors[k + 3] + (char) ('a' + v);
+                LayoutSolver x = new LayoutSolver();
+                x.term(v, k);
+                x.add(2, -7, 1, 1);
+                Check.dueText(x, 0, own + ">-7@s");
+                LayoutSolver y = new LayoutSolver();
+                int w = (v + 3) % 6;
+                y.term(w, 1);
+                y.term(v, k);
+                y.add(0, 40, 0, 5);
+                char other = (char) ('a' + w);
+                Check.dueText(y, 0, v < w ? own + "+" + other + "<40" : other + (k > 0 ? "+" : "") + own + "<40");
+            }
+        }
+        LayoutSolver shortest = Check.layout("a<0");
+        Check.due("length", shortest.spell(0, -1), 3);
+        LayoutSolver longest = Check.layout("-3a-3b-3c-3d-3e-3f=-200@m5");
+        Check.due("length", longest.spell(0, -1), 26);
+        Check.due("the last one", longest.spell(0, 25), '5');
+        Check.due("behind it", longest.spell(0, 26), Check.NONE);
+        Check.due("the first one", longest.spell(0, 0), '-');
+        Check.due("before it", longest.spell(0, -2), Check.NONE);
     }
 }
