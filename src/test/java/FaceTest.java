@@ -60,6 +60,9 @@ public final class FaceTest {
         }
         for (Class<?> inside : LayoutSolver.class.getDeclaredClasses()) {
             Check.due(inside + " is static", Modifier.isStatic(inside.getModifiers()) ? 1 : 0, 1);
+            for (Method m : inside.getDeclaredMethods()) {
+                Check.due(m + " bears a public name", names.contains(m.getName()) ? 1 : 0, 0);
+            }
             for (Field f : inside.getDeclaredFields()) {
                 boolean isState = Modifier.isStatic(f.getModifiers()) && !Modifier.isFinal(f.getModifiers());
                 Check.due(f + " is static state", isState ? 1 : 0, 0);

@@ -4,14 +4,22 @@ import java.lang.reflect.Method;
 import java.lang.reflect.Modifier;
 import java.nio.file.Files;
 import java.nio.file.Path;
+import java.util.Set;
+import java.util.regex.Matcher;
+import java.util.regex.Pattern;
 
 /** What can be seen easily of the rules of LANGUAGE.md, and what the dearest calls leave in the room (rule 12). */
 public final class RulesTest {
     private static final String[] FORBIDDEN = {"import ", "->", "::", "throw", "try ", "catch", "synchronized", "assert",
         "instanceof", "@", "var ", "static {", "new Object", "System.", "Exact", "volatile", "native", "\""};
 
+    /** Of the library that rule 4 leaves, the program needs no more than this. */
+    private static final Set<String> LIBRARY = Set.of("Math.abs", "Long.compare", "Integer.bitCount");
+
     public static void main(String[] args) throws IOException {
         words();
+        library();
+        signs();
         sizes(LayoutSolver.class);
         int classes = 1;
         for (Class<?> inside : LayoutSolver.class.getDeclaredClasses()) {
@@ -23,9 +31,29 @@ public final class RulesTest {
         Check.end("RulesTest");
     }
 
+    private static String source() throws IOException {
+        return Files.readString(Path.of("src/main/java/LayoutSolver.java"));
+    }
+
+    private static String code() throws IOException {
+        return source().replaceAll("(?s)/\\*.*?\\*/", "").replaceAll("//[^\n]*", "").replace("'@'", "");
+    }
+
+    private static void library() throws IOException {
+        Matcher used = Pattern.compile("\\b(Math|Long|Integer|String|StringBuilder|Arrays|List|Character)\\.\\w+").matcher(code());
+        while (used.find()) {
+            Check.due(used.group() + " is used", LIBRARY.contains(used.group()) ? 1 : 0, 1);
+        }
+    }
+
+    private static void signs() throws IOException {
+        for (char sign : source().toCharArray()) {
+            Check.due("a sign has the number " + (int) sign, sign == '\n' || sign >= 32 && sign < 127 ? 1 : 0, 1);
+        }
+    }
+
     private static void words() throws IOException {
-        String source = Files.readString(Path.of("src/main/java/LayoutSolver.java"));
-        String code = source.replaceAll("(?s)/\\*.*?\\*/", "").replaceAll("//[^\n]*", "").replace("'@'", "");
+        String code = code();
         for (String word : FORBIDDEN) {
             Check.due("'" + word + "' stands in the program", code.contains(word) ? 1 : 0, 0);
         }
